@@ -16,6 +16,7 @@ public final class FightersTest {
         holding(c);
         effect(c);
         value(c);
+        leastLife(c);
         inList(c);
         c.finish();
     }
@@ -69,8 +70,11 @@ public final class FightersTest {
         x.next();
         x.end();
         c.same("P3 a new round", 0, x.next());
+        x.setSpeed(0, 2);
         x.setSpeed(0, 1);
         c.same("P3 saves", 3, x.undo());
+        c.same("P3 undone", 2, x.fighter(0, 0));
+        c.same("P3 saves each", 2, x.undo());
         c.same("P3 undone", 30, x.fighter(0, 0));
     }
 
@@ -186,6 +190,20 @@ public final class FightersTest {
         x.delay();
         x.comeIn(2);
         values(c, "P7 a turn that was delayed counts once", x, 3, 2, 0, 1, 2, 0, 10, 2, 1);
+    }
+
+    private static void leastLife(Check c) {
+        SpeedTurns x = new SpeedTurns();
+        x.add(9, 2);
+        x.add(8, 1);
+        c.same("P7 who has a life of 1 stands", 2, x.value(1));
+        x.next();
+        x.act(0, 0, 0, 1);
+        x.settle();
+        c.same("P7 who has a life of 1 left stands", 2, x.value(1));
+        c.same("P7 its turn goes on", 0, x.value(4));
+        x.end();
+        c.same("P9 who has a life of 1 has a turn", 1, x.next());
     }
 
     private static void inList(Check c) {

@@ -7,6 +7,7 @@ public final class StateTest {
         Check c = new Check("StateTest");
         undo(c);
         undoHidden(c);
+        eachUndoable(c);
         notUndoable(c);
         digest(c);
         c.finish();
@@ -66,6 +67,39 @@ public final class StateTest {
         for (int what = 0; what < due.length; what++) {
             c.same("P25 the act that comes back is whole, " + what, due[what], x.effect(0, what));
         }
+    }
+
+    /** Each call goes on from the state of the one before, which differs from the state that is saved ahead of it. */
+    private static void eachUndoable(Check c) {
+        SpeedTurns x = new SpeedTurns();
+        undone(c, "next for nobody", x, () -> x.next());
+        undone(c, "add", x, () -> x.add(9, 100));
+        undone(c, "another add", x, () -> x.add(8, 1));
+        undone(c, "setSpeed", x, () -> x.setSpeed(0, 10));
+        undone(c, "setShock", x, () -> x.setShock(3));
+        undone(c, "next", x, () -> x.next());
+        undone(c, "delay", x, () -> x.delay());
+        undone(c, "comeIn", x, () -> x.comeIn(0));
+        undone(c, "cast", x, () -> x.cast(0, 1, 1, 5, 1, 1));
+        undone(c, "settle", x, () -> x.settle());
+        undone(c, "act", x, () -> x.act(0, 1, 1, 5));
+        undone(c, "settle of a heal", x, () -> x.settle());
+        undone(c, "end", x, () -> x.end());
+        x.append('n');
+        x.append(';');
+        undone(c, "carryOut", x, () -> x.carryOut());
+        undone(c, "setSpeed without a change", x, () -> x.setSpeed(0, 10));
+        undone(c, "setShock once more", x, () -> x.setShock(4));
+        undone(c, "setShock without a change", x, () -> x.setShock(4));
+    }
+
+    /** Makes the call, undoes it, and makes it again. */
+    private static void undone(Check c, String what, SpeedTurns x, Check.Call call) {
+        long before = written(x, 0, 0);
+        call.make();
+        x.undo();
+        c.same("P25 undone: " + what, before, written(x, 0, 0));
+        call.make();
     }
 
     private static void notUndoable(Check c) {

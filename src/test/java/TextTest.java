@@ -124,6 +124,8 @@ public final class TextTest {
         c.same("P24 its answer is used", 0, x.fighter(1, 4));
         c.same("P24 healed, struck", 92, x.fighter(0, 2));
         c.same("P24 struck", 74, x.fighter(1, 2));
+        c.same("P24 the least powers", 4, carryOut(x, "s1,1;r;h1,01;r;"));
+        c.same("P24 struck by 1 and healed by 1", 74, x.fighter(1, 2));
         c.same("P24 to the last byte", 60, carryOut(x, "e;n;".repeat(30)));
         c.same("P24 31 turns more or less", 32, x.value(7));
         SpeedTurns nobody = new SpeedTurns();

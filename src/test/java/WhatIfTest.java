@@ -8,6 +8,7 @@ public final class WhatIfTest {
     public static void main(String[] args) {
         Check c = new Check("WhatIfTest");
         upcoming(c);
+        upcomingCountsDown(c);
         upcomingFall(c);
         goneAfter(c);
         goneMuchLater(c);
@@ -52,6 +53,18 @@ public final class WhatIfTest {
         x.delay();
         c.same("P18 nobody comes in", 2, x.upcoming(0));
         c.same("P18 a new round", 0, x.upcoming(1));
+    }
+
+    private static void upcomingCountsDown(Check c) {
+        SpeedTurns x = game(3, 100);
+        x.next();
+        begin(x, 0, 2, 1, 20, 1, 0);
+        x.act(0, 0, 1, 60);
+        c.same("P18 the haste ends with the present turn", 0, x.upcoming(2));
+        x.settle();
+        begin(x, 0, 2, 1, 20, 2, 0);
+        c.same("P18 a longer haste does not", 2, x.upcoming(2));
+        c.same("P18 but it ends with the next one", 0, x.upcoming(5));
     }
 
     private static void upcomingFall(Check c) {
