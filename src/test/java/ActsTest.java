@@ -29,6 +29,7 @@ public final class ActsTest {
         return x;
     }
 
+    /** Promise 13: its arguments and refusals, and their order. */
     private static void act(Check c) {
         SpeedTurns x = game(2, 100);
         c.fails("P13 no turn", x, STATE, () -> x.act(0, 0, 1, 5));
@@ -55,6 +56,7 @@ public final class ActsTest {
         c.same("P13 several acts in a turn", 1, x.act(0, 0, 0, 1));
     }
 
+    /** Promise 13; Terms: "its answer is not ready any more, and its act, of any kind, comes onto the stack". */
     private static void answers(Check c) {
         SpeedTurns x = game(3, 100);
         x.next();
@@ -83,6 +85,7 @@ public final class ActsTest {
         c.same("P15 nothing happens to the fallen", 0, x.settle());
     }
 
+    /** Promises 13, 14 and 17; Terms: "(at most 8 acts)". */
     private static void atMostEight(Check c) {
         SpeedTurns x = game(10, 100);
         x.next();
@@ -97,6 +100,7 @@ public final class ActsTest {
         c.same("P15 all struck", 92, x.fighter(9, 2));
     }
 
+    /** Promise 14: its arguments and refusals, and their order. */
     private static void cast(Check c) {
         SpeedTurns x = game(2, 100);
         c.fails("P14 no turn", x, STATE, () -> x.cast(0, 0, 0, 1, 1, 0));
@@ -124,6 +128,7 @@ public final class ActsTest {
         c.same("P15 it is held", 1, x.effect(0, 6));
     }
 
+    /** Promise 15; Terms: "the topmost act leaves the stack and happens", "not above its first life". */
     private static void settle(Check c) {
         SpeedTurns x = game(3, 50);
         c.fails("P15 no stack", x, STATE, () -> x.settle());
@@ -151,6 +156,7 @@ public final class ActsTest {
         c.same("P15 the next one", 1, x.next());
     }
 
+    /** Promise 15; Terms: "A counter takes the act that is topmost then, if there is one, off the stack". */
     private static void counters(Check c) {
         SpeedTurns x = game(5, 50);
         x.next();
@@ -171,6 +177,7 @@ public final class ActsTest {
         c.same("P15 the strike was taken off", 40, x.fighter(3, 2));
     }
 
+    /** Promise 15; Terms: "n is reduced by the powers of all shields on it, but not below 0". */
     private static void shields(Check c) {
         SpeedTurns x = game(2, 50);
         x.next();
@@ -189,6 +196,7 @@ public final class ActsTest {
         c.same("P15 the other one's shields do not help", 30, x.fighter(0, 2));
     }
 
+    /** Promise 15; Terms: "An effect that would be the 31st (when the one that its source held has ended)". */
     private static void manyEffects(Check c) {
         SpeedTurns x = game(2, 50);
         x.next();
@@ -215,6 +223,7 @@ public final class ActsTest {
         c.same("P15 and takes nothing away", 29, x.fighter(0, 7));
     }
 
+    /** Promise 16: "0 for the topmost one, and so on downward", and its refusals. */
     private static void stacked(Check c) {
         SpeedTurns x = game(3, 50);
         c.fails("P16 no stack", x, INDEX, () -> x.stacked(0, 0));
@@ -234,6 +243,7 @@ public final class ActsTest {
         c.fails("P16 what 4", x, ARGUMENT, () -> x.stacked(0, 4));
     }
 
+    /** Promise 17: "Returns whether act() by it would be possible as an answer." */
     private static void mayAnswer(Check c) {
         SpeedTurns x = game(3, 50);
         c.fails("P17 fighter -1", x, INDEX, () -> x.mayAnswer(-1));

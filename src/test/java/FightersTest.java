@@ -21,6 +21,7 @@ public final class FightersTest {
         c.finish();
     }
 
+    /** Promise 1: "Creates a game without fighters, in round 0." */
     private static void newObject(Check c) {
         SpeedTurns x = new SpeedTurns();
         int[] due = {0, 0, 0, 0, NONE, 0, 10, 0, 0};
@@ -32,6 +33,7 @@ public final class FightersTest {
         c.fails("P1 no saved state", x, STATE, () -> x.undo());
     }
 
+    /** Promise 2: "`speed`: 1 to 30", "`life`: 1 to 200", "if there are 10 fighters", "Undoable". */
     private static void add(Check c) {
         SpeedTurns x = new SpeedTurns();
         c.fails("P2 speed 0", x, ARGUMENT, () -> x.add(0, 1));
@@ -52,6 +54,7 @@ public final class FightersTest {
         c.same("P2 the last", 9, x.value(0) - 1);
     }
 
+    /** Promise 3: "(The list of the round stays.)", "Returns the previous speed.", and its refusals. */
     private static void setSpeed(Check c) {
         SpeedTurns x = new SpeedTurns();
         c.fails("P3 no fighter", x, INDEX, () -> x.setSpeed(0, 5));
@@ -78,6 +81,7 @@ public final class FightersTest {
         c.same("P3 undone", 30, x.fighter(0, 0));
     }
 
+    /** Promise 4: "`shock`: 1 to 200", "Returns the previous shock." */
     private static void setShock(Check c) {
         SpeedTurns x = new SpeedTurns();
         c.fails("P4 shock 0", x, ARGUMENT, () -> x.setShock(0));
@@ -90,6 +94,7 @@ public final class FightersTest {
         c.same("P4 undone", 200, x.value(6));
     }
 
+    /** Promise 5: each "what" of a fighter through a turn, and its refusals. */
     private static void fighter(Check c) {
         SpeedTurns x = new SpeedTurns();
         c.fails("P5 no fighter", x, INDEX, () -> x.fighter(0, 0));
@@ -121,6 +126,7 @@ public final class FightersTest {
         all(c, "P5 not in the list yet", x, 2, 3, 3, 3, 3, 1, NONE, NONE, NONE, 0);
     }
 
+    /** Promise 5: "7 the effect that it holds (NONE if it holds none)"; Terms: "A fighter holds at most one effect". */
     private static void holding(Check c) {
         SpeedTurns x = new SpeedTurns();
         x.add(9, 100);
@@ -147,6 +153,7 @@ public final class FightersTest {
         c.same("P5 the life", 81, x.fighter(0, 2));
     }
 
+    /** Promise 6: each "what" of an effect, and its refusals. */
     private static void effect(Check c) {
         SpeedTurns x = new SpeedTurns();
         x.add(9, 100);
@@ -170,6 +177,7 @@ public final class FightersTest {
         c.fails("P6 what 7", x, ARGUMENT, () -> x.effect(0, 7));
     }
 
+    /** Promise 7: each "what" through a turn, and its refusals. */
     private static void value(Check c) {
         SpeedTurns x = new SpeedTurns();
         c.fails("P7 what -1", x, ARGUMENT, () -> x.value(-1));
@@ -192,6 +200,7 @@ public final class FightersTest {
         values(c, "P7 a turn that was delayed counts once", x, 3, 2, 0, 1, 2, 0, 10, 2, 1);
     }
 
+    /** Promises 7 and 9: "1 those that stand"; Terms: "at 0 it falls". */
     private static void leastLife(Check c) {
         SpeedTurns x = new SpeedTurns();
         x.add(9, 2);
@@ -206,6 +215,7 @@ public final class FightersTest {
         c.same("P9 who has a life of 1 has a turn", 1, x.next());
     }
 
+    /** Promise 8: "`place`: from 0"; Terms: "by descending present speeds at that time". */
     private static void inList(Check c) {
         SpeedTurns x = new SpeedTurns();
         x.add(5, 50);

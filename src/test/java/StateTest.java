@@ -13,6 +13,7 @@ public final class StateTest {
         c.finish();
     }
 
+    /** Promise 25; Terms: "at most 4 states are saved, and the oldest is dropped first". */
     private static void undo(Check c) {
         SpeedTurns x = new SpeedTurns();
         c.fails("P25 no saved state", x, STATE, () -> x.undo());
@@ -39,7 +40,7 @@ public final class StateTest {
         c.same("P25 the first of them", 105, x.value(6));
     }
 
-    /** What no answer tells directly comes back, too. */
+    /** Promise 25; Terms: "The saved state contains everything", also what no answer tells directly. */
     private static void undoHidden(Check c) {
         SpeedTurns x = new SpeedTurns();
         x.add(9, 100);
@@ -69,7 +70,10 @@ public final class StateTest {
         }
     }
 
-    /** Each call goes on from the state of the one before, which differs from the state that is saved ahead of it. */
+    /**
+     * Promise 25; Terms: "Each successful call of a method whose description says "undoable" saves the state".
+     * Each call goes on from the state of the one before, which differs from the state that is saved ahead of it.
+     */
     private static void eachUndoable(Check c) {
         SpeedTurns x = new SpeedTurns();
         undone(c, "next for nobody", x, () -> x.next());
@@ -102,6 +106,7 @@ public final class StateTest {
         call.make();
     }
 
+    /** Promise 25: questions and the script text are not "undoable". */
     private static void notUndoable(Check c) {
         SpeedTurns x = new SpeedTurns();
         x.add(9, 100);
@@ -130,6 +135,7 @@ public final class StateTest {
         c.same("P25 neither does a text", before, x.digest());
     }
 
+    /** Promise 26: "for each of the following values v, set h = 31 * h + v". */
     private static void digest(Check c) {
         SpeedTurns x = new SpeedTurns();
         c.same("P26 a new object", written(x, 0, 0), x.digest());

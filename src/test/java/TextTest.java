@@ -31,6 +31,7 @@ public final class TextTest {
         return x.carryOut();
     }
 
+    /** Promises 22 and 23: "`value`: the byte, 0 to 127", "if the text has 120 bytes", "the length that it had". */
     private static void append(Check c) {
         SpeedTurns x = new SpeedTurns();
         c.same("P23 no text", 0, x.clearText());
@@ -53,6 +54,7 @@ public final class TextTest {
         c.same("P25 undo leaves the text", 2, x.clearText());
     }
 
+    /** Promise 24: "-10 minus the syntax error position if there is a syntax error". */
     private static void syntax(Check c) {
         String[] early = {"n", "e", "d", "r", "c", "c1", "s", "s1", "s1,", "s1,5", "s1,55", "h", "h1,", "n;e", "n;e;c"};
         for (String text : early) {
@@ -78,7 +80,7 @@ public final class TextTest {
         return x.digest();
     }
 
-    /** At the start, behind a letter, and behind a power: which of all bytes can stand there. */
+    /** Promise 24: "the first byte that cannot stand where it stands", for all bytes at some places. */
     private static void everyByte(Check c) {
         SpeedTurns x = game();
         for (int b = 0; b <= 127; b++) {
@@ -108,6 +110,7 @@ public final class TextTest {
         }
     }
 
+    /** Promise 24: "Carries out the commands of the text one after the other, as by the methods". */
     private static void commands(Check c) {
         SpeedTurns x = game();
         c.same("P24 no commands", 0, carryOut(x, ""));
@@ -133,6 +136,7 @@ public final class TextTest {
         c.same("P24 two rounds", 2, nobody.value(3));
     }
 
+    /** Promise 24: "If one of them would throw an exception [..], nothing is changed." */
     private static void commandErrors(Check c) {
         Object[][] wrong = {
             {"e;", 0}, {"d;", 0}, {"r;", 0}, {"s1,5;", 0}, {"h1,5;", 0}, {"c0;", 0}, {"c9;", 0}, {"n;n;", 1},
@@ -150,6 +154,7 @@ public final class TextTest {
         }
     }
 
+    /** Promise 24: "(one saved state for all commands, also if there are none)". */
     private static void oneSavedState(Check c) {
         SpeedTurns x = game();
         carryOut(x, "");

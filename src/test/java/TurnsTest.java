@@ -33,6 +33,7 @@ public final class TurnsTest {
         x.settle();
     }
 
+    /** Promise 9: "NONE if nobody stands"; Terms: "If there is none (or the round is 0), a new round begins first". */
     private static void next(Check c) {
         SpeedTurns x = new SpeedTurns();
         c.same("P9 nobody stands", NONE, x.next());
@@ -65,6 +66,7 @@ public final class TurnsTest {
         c.same("P9 round 5", 5, x.value(3));
     }
 
+    /** Promise 9; Terms: "Then each poison on it that is still there, in order, is a harm of its power". */
     private static void poison(Check c) {
         SpeedTurns x = game(2, 20);
         x.next();
@@ -91,6 +93,7 @@ public final class TurnsTest {
         c.same("P9 the turn counts", 4, x.value(7));
     }
 
+    /** Promise 9; Terms: "Then each poison on it that is still there", when a harm breaks the hold on one. */
     private static void poisonThatIsHeld(Check c) {
         SpeedTurns x = game(1, 200);
         x.next();
@@ -113,6 +116,7 @@ public final class TurnsTest {
         c.same("P9 it ended", 1, y.value(8));
     }
 
+    /** Promise 9; Terms: "If it stands, and there is a stun on it, its turn ends at once, as below." */
     private static void stun(Check c) {
         SpeedTurns x = game(2, 200);
         x.next();
@@ -143,6 +147,7 @@ public final class TurnsTest {
         c.same("P9 poison breaks the stun first", 0, y.value(4));
     }
 
+    /** Promise 10: "Returns the number of effects that have counted down to 0 by this.", and its refusals. */
     private static void end(Check c) {
         SpeedTurns x = game(2, 100);
         c.fails("P10 no turn", x, STATE, () -> x.end());
@@ -173,6 +178,7 @@ public final class TurnsTest {
         c.same("P10 none", 0, x.end());
     }
 
+    /** Promise 15; Terms: "When a fighter falls, all effects on it end", and those of which it is the source. */
     private static void fall(Check c) {
         SpeedTurns x = game(3, 20);
         x.next();
@@ -199,6 +205,7 @@ public final class TurnsTest {
         c.same("P10 it counts down with its target", 19, x.effect(0, 4));
     }
 
+    /** Promise 11: "or an act was begun in it, or it was delayed already in this round". */
     private static void delay(Check c) {
         SpeedTurns x = game(2, 100);
         c.fails("P11 no turn", x, STATE, () -> x.delay());
@@ -230,6 +237,7 @@ public final class TurnsTest {
         c.same("P11 nothing counts down", 1, x.next());
     }
 
+    /** Promise 12: "(poison, stun and the answer do not come once more)", and its refusals. */
     private static void comeIn(Check c) {
         SpeedTurns x = game(3, 100);
         c.fails("P12 fighter -1", x, INDEX, () -> x.comeIn(-1));
@@ -281,6 +289,7 @@ public final class TurnsTest {
         c.fails("P12 delayed in the old round", x, STATE, () -> x.comeIn(2));
     }
 
+    /** Promise 12; Terms: "(also if that one has fallen or has delayed; its old place is given up". */
     private static void comeInBehind(Check c) {
         SpeedTurns x = game(4, 100);
         x.next();

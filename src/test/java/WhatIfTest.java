@@ -30,6 +30,7 @@ public final class WhatIfTest {
         x.settle();
     }
 
+    /** Promise 18: "0 for the next turn, 1 for the one behind it, and so on, up to 40". */
     private static void upcoming(Check c) {
         SpeedTurns x = game(3, 100);
         c.fails("P18 index -1", x, ARGUMENT, () -> x.upcoming(-1));
@@ -55,6 +56,7 @@ public final class WhatIfTest {
         c.same("P18 a new round", 0, x.upcoming(1));
     }
 
+    /** Promise 18: "on a copy, the stack is cleared, the present turn ends". */
     private static void upcomingCountsDown(Check c) {
         SpeedTurns x = game(3, 100);
         x.next();
@@ -67,6 +69,7 @@ public final class WhatIfTest {
         c.same("P18 but it ends with the next one", 0, x.upcoming(5));
     }
 
+    /** Promise 18: "Returns the fighter; NONE if nobody stands then." */
     private static void upcomingFall(Check c) {
         SpeedTurns x = new SpeedTurns();
         c.same("P18 nobody", NONE, x.upcoming(0));
@@ -84,6 +87,7 @@ public final class WhatIfTest {
         c.same("P18 round 1", 1, x.value(3));
     }
 
+    /** Promise 19: "Returns the number of turns that begin, 0 if it is gone when the present turn has ended". */
     private static void goneAfter(Check c) {
         SpeedTurns x = game(3, 30);
         c.fails("P19 no effect", x, INDEX, () -> x.goneAfter(0));
@@ -120,6 +124,7 @@ public final class WhatIfTest {
         c.same("P19 the other one's lasts, with the turns closer together", 22, y.goneAfter(2));
     }
 
+    /** Promise 19: "NONE if it would be there still behind 60 turns". */
     private static void goneMuchLater(Check c) {
         SpeedTurns x = game(3, 200);
         x.next();
@@ -153,6 +158,7 @@ public final class WhatIfTest {
         c.same("P19 not turn 61", NONE, z.goneAfter(2));
     }
 
+    /** Promise 20: "Returns the sum of their lives (as they are, if the stack is empty)." */
     private static void lifeSettled(Check c) {
         SpeedTurns x = new SpeedTurns();
         c.same("P20 nobody", 0, x.lifeSettled());
@@ -173,6 +179,7 @@ public final class WhatIfTest {
         c.same("P20 as they are", 130, x.lifeSettled());
     }
 
+    /** Promise 21: "divided by the sum of the first lives, converted to double; 0.0 without fighters". */
     private static void vigor(Check c) {
         SpeedTurns x = new SpeedTurns();
         c.same("P21 nobody", 0.0, x.vigor());
