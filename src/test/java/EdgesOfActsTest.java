@@ -576,9 +576,9 @@ public final class EdgesOfActsTest extends Edges {
     void aCountersTargetDoesNotMatter() {
         SpeedTurns x = oneFallen(4);
         x.act(0, STRIKE, 2, 20);
-        x.act(2, HEAL, 2, 1);
+        x.act(2, STRIKE, 2, 5);
         x.act(3, COUNTER, 1, 1);
-        same("the counter at the fallen, and the strike", 2, x.settle());
+        same("the counter at the fallen, and the first strike", 2, x.settle());
         same("the topmost was taken off, and no other", 30, x.fighter(2, 2));
         SpeedTurns y = inTurn(2, 50);
         y.act(0, STRIKE, 1, 20);

@@ -220,6 +220,26 @@ public final class EdgesOfFightersTest extends Edges {
         listIs("the next list", x, 2, 1, 0);
     }
 
+    @Holds(promise = 3, says = "Sets the speed of a fighter. (The list of the round stays.) Undoable.")
+    void theListStaysBetweenTheTurns() {
+        SpeedTurns x = inTurn(3, 50);
+        x.delay();
+        x.setSpeed(2, 30);
+        x.setSpeed(1, 1);
+        listIs("the list", x, 0, 1, 2);
+        same("who has delayed", 2, x.fighter(0, 5));
+        same("who waits", 0, x.fighter(2, 5));
+        same("the next turn", 1, x.next());
+        same("who has delayed comes in", 1, ended(x).comeIn(0));
+        same("the last turn", 2, endAndNext(x));
+        listIs("the list at last", x, 1, 0, 2);
+    }
+
+    private static SpeedTurns ended(SpeedTurns x) {
+        x.end();
+        return x;
+    }
+
     @Holds(promise = 3, says = "Returns the previous speed.")
     void setSpeedAnswersTheSpeedBefore() {
         SpeedTurns x = new SpeedTurns();
@@ -785,6 +805,26 @@ public final class EdgesOfFightersTest extends Edges {
         x.end();
         x.next();
         listIs("one that is slowed far below 1 is as fast as one of 1", x, 2, 0, 1);
+    }
+
+    @Holds(promise = 8, says = "The list of a round has the fighters that stood when it began, "
+            + "by descending present speeds at that time, equal ones by their numbers.")
+    void laterSpeedsCountInTheNextRound() {
+        SpeedTurns x = inTurn(3, 50);
+        begin(x, 2, HASTE, 3, 4, BY_SOURCE);
+        listIs("a haste that begins", x, 0, 1, 2);
+        endAndNext(x);
+        endAndNext(x);
+        endAndNext(x);
+        listIs("counts in the next round", x, 2, 0, 1);
+        endAndNext(x);
+        x.act(0, HEAL, 0, 1);
+        x.cast(2, 0, SLOW, 20, 1, BY_TARGET);
+        x.settle();
+        listIs("a slow that begins", x, 2, 0, 1);
+        endAndNext(x);
+        endAndNext(x);
+        listIs("and has ended counts in no list", x, 2, 0, 1);
     }
 
     @Holds(promise = 8, says = "The list of a round has the fighters that stood when it began, "

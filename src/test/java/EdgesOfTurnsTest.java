@@ -136,6 +136,21 @@ public final class EdgesOfTurnsTest extends Edges {
     }
 
     @Holds(promise = 9, says = "When a turn begins, the answer of the fighter becomes ready.")
+    void aNewRoundAloneMakesNobodyReady() {
+        SpeedTurns x = inTurn(3, 50);
+        endAndNext(x);
+        endAndNext(x);
+        x.act(2, HEAL, 2, 1);
+        x.act(1, HEAL, 2, 1);
+        x.settle();
+        same("the next round", 0, endAndNext(x));
+        same("it has answered in the last turn of the old one", 0, x.fighter(1, 4));
+        x.delay();
+        x.next();
+        same("ready with its turn", 1, x.fighter(1, 4));
+    }
+
+    @Holds(promise = 9, says = "When a turn begins, the answer of the fighter becomes ready.")
     void whoFallsAsItsTurnBeginsIsReadyAllTheSame() {
         SpeedTurns x = withStack(2);
         x.act(1, HEAL, 0, 1);
